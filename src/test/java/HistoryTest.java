@@ -100,9 +100,10 @@ public final class HistoryTest {
         Checks.due("and the next", desk.count(7), 4);
         Checks.due("undo() of the cargo", desk.undo(), 3);
         Checks.dueCounts("five ships", desk, 5, 0);
-        Checks.due("undo() of ship 4", desk.undo(), 2);
-        Checks.due("undo() of ship 3", desk.undo(), 1);
-        Checks.due("undo() of ship 2", desk.undo(), 0);
+        for (int left = 2; left >= 0; left--) {
+            Checks.due("undo() of ship " + (left + 2), desk.undo(), left);
+            Checks.due("ships, " + left + " states left", desk.count(0), left + 2);
+        }
         Checks.dueCounts("two ships are left", desk, 2, 0);
         Checks.due("the second", desk.shipOf(1, 0), 2);
         Checks.due("undo() of an empty history", desk.undo(), Checks.NOT);

@@ -151,6 +151,10 @@ public final class PlansTest {
         Checks.due("the tenth", one.fixtureOf(0, 9, 0), 9);
         Checks.due("no eleventh", one.fixtureOf(0, 10, 0), Checks.NONE);
         Checks.due("slack of ten", one.slack(0), 999 - 45);
+        Checks.due("delay of ten", one.delay(0, 99), 0);
+        Checks.due("slack of ten", one.slack(0), 900 - 45);
+        Checks.due("ship of ten", one.shipOf(0, 4), 149);
+        Checks.due("voyage behind ten", one.voyage(0, 1, 1), 150);
     }
 
     private static void slackOfOne() {

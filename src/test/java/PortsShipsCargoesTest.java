@@ -111,7 +111,7 @@ public final class PortsShipsCargoesTest {
         }
         Checks.due("a sixth ship", desk.ship(2, 2, 2, 2, 2), Checks.LIMIT);
         Checks.due("INVALID_ARGUMENT goes first", desk.ship(0, 2, 2, 2, 2), Checks.BAD);
-        Checks.due("count(0)", desk.count(0), 5);
+        Checks.dueCounts("five ships", desk, 5, 0, 0, 0, Checks.MILLION, 0, 0, 4, 0);
         Checks.dueShip("the last", desk, 4, 5, 2, 2, 4, 4);
         Checks.due("no ship 5", desk.shipOf(5, 0), Checks.BAD);
     }

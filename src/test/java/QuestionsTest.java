@@ -9,6 +9,7 @@ public final class QuestionsTest {
         voyageFloats();
         bestCargo();
         bestCargoChoices();
+        bestCargoOfItsOwn();
         bestShip();
         Checks.finish("QuestionsTest");
     }
@@ -176,12 +177,34 @@ public final class QuestionsTest {
         desk.cargo(70, 0, 1, 35, 99, 20);
         Checks.due("most in all", desk.bestCargo(0), 1);
         Checks.due("its own costs", desk.bestCargo(1), 0);
+        Checks.due("the ship that is no dearer", desk.bestShip(0), 0);
+        Checks.due("the ship that is no dearer", desk.bestShip(1), 0);
+        desk.ship(90, 20, 1, 0, 0);
+        desk.ship(70, 20, 1, 0, 0);
+        desk.cargo(91, 0, 1, 0, 99, 99);
+        Checks.due("not what another ship could carry", desk.bestCargo(2), 1);
+        Checks.due("not what another ship could carry", desk.bestCargo(3), 1);
+        Checks.due("the great one", desk.bestCargo(1), 2);
         desk.fix(1, 1);
         desk.fix(0, 0);
+        desk.fix(0, 2);
         Checks.due("all fixed", desk.bestCargo(0), Checks.NONE);
         desk.settle(0);
         desk.settle(1);
         Checks.due("all gone", desk.bestCargo(0), Checks.NONE);
+    }
+
+    /** Ship 0 is too small for cargo 0, which earns most and which ship 1 could carry. */
+    private static void bestCargoOfItsOwn() {
+        ShipFixtures desk = new ShipFixtures();
+        desk.ship(10, 20, 1, 0, 0);
+        desk.ship(99, 20, 1, 0, 0);
+        desk.cargo(99, 0, 1, 0, 99, 99);
+        desk.cargo(10, 0, 1, 0, 99, 10);
+        Checks.due("the small one", desk.bestCargo(0), 1);
+        Checks.due("the great one", desk.bestCargo(1), 0);
+        Checks.due("of two alike, the first", desk.bestShip(1), 0);
+        Checks.due("of one that can", desk.bestShip(0), 1);
     }
 
     private static void bestShip() {
