@@ -6,7 +6,7 @@ import java.util.ArrayList;
 import java.util.Arrays;
 import java.util.List;
 
-/** The public face, and the rules of LANGUAGE.md that can be seen from outside: 1, 2 and 5. */
+/** The public face, and the rules of LANGUAGE.md that can be seen from outside: 1, 2, 5 and 11. */
 public final class FaceTest {
     private static final String[] METHODS = {
         "bestCargo(int)", "bestShip(int)", "callOff(int)", "cargo(int,int,int,int,int,int)", "cargoOf(int,int)",
@@ -85,6 +85,16 @@ public final class FaceTest {
             for (Field field : one.getDeclaredFields()) {
                 Checks.holds(field + " is final if static",
                         !Modifier.isStatic(field.getModifiers()) || Modifier.isFinal(field.getModifiers()));
+            }
+            methodsInside(one);
+        }
+    }
+
+    private static void methodsInside(Class<?> one) {
+        for (Method method : one.getDeclaredMethods()) {
+            Checks.holds(method + " takes at most seven parameters", method.getParameterCount() <= 7);
+            for (String face : METHODS) {
+                Checks.holds(method + " bears no public name", !face.startsWith(method.getName() + "("));
             }
         }
     }

@@ -28,6 +28,7 @@ public final class TextEdgesTest {
         rangesOfDelays();
         errorCodesAsTheCallsReturnThem();
         thoseAheadAreDone();
+        ordersAreTheCalls();
         playedTextStays();
         longestTextOfOrders();
         endsTooEarlyAt60();
@@ -310,6 +311,29 @@ public final class TextEdgesTest {
         }
         fault(desk, "c1,0,1,0,0,1;c1,0,1,0,0,1;", 13, 2, Checks.LIMIT);
         sound(desk, "c1,0,1,0,0,1;", 1);
+    }
+
+    /** Each order does what its call does with the same numbers, 0 ahead or not. */
+    private static void ordersAreTheCalls() {
+        ShipFixtures played = new ShipFixtures();
+        ShipFixtures called = new ShipFixtures();
+        sound(played, "s21,012,34,5,006;", 1);
+        Checks.due("ship(21, 12, 34, 5, 6)", called.ship(21, 12, 34, 5, 6), 0);
+        sound(played, "s9,8,7,6,543;", 1);
+        Checks.due("ship(9, 8, 7, 6, 543)", called.ship(9, 8, 7, 6, 543), 1);
+        sound(played, "c019,2,4,56,078,90;", 1);
+        Checks.due("cargo(19, 2, 4, 56, 78, 90)", called.cargo(19, 2, 4, 56, 78, 90), 0);
+        sound(played, "c8,7,3,621,954,10;", 1);
+        Checks.due("cargo(8, 7, 3, 621, 954, 10)", called.cargo(8, 7, 3, 621, 954, 10), 1);
+        sound(played, "d00,013;", 1);
+        Checks.due("delay(0, 13)", called.delay(0, 13), 0);
+        sound(played, "f001,1;f0,0;", 2);
+        Checks.holds("fix(1, 1)", called.fix(1, 1) > 0);
+        Checks.holds("fix(0, 0)", called.fix(0, 0) > 0);
+        sound(played, "d0,99;", 1);
+        Checks.due("delay(0, 99)", called.delay(0, 99), 1);
+        played.clearText();
+        Answers.alike("played and called", played, called);
     }
 
     private static void playedTextStays() {
