@@ -26,6 +26,8 @@ public final class ShipFixtures {
     private static final int BAD_FORM = 1;
     private static final int BAD_CALL = 2;
 
+    private static final int SIGN_OF_A_FLOAT = 1 << 31;
+
     /** Sums that may be negative are answered with this added, which keeps them clear of the error codes. */
     private static final int OFFSET = 1000000;
 
@@ -393,7 +395,7 @@ public final class ShipFixtures {
          * the library's own function for them is not allowed. Doubling a float is exact, so all bits stay.
          */
         private static int bitsOf(float number) {
-            int sign = number < 0f ? Integer.MIN_VALUE : 0;
+            int sign = number < 0f ? SIGN_OF_A_FLOAT : 0;
             float rest = number < 0f ? -number : number;
             for (int exponent = 150; exponent > 0; exponent--) {
                 if (rest >= 8388608f) {
